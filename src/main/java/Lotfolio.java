@@ -68,6 +68,9 @@ public final class Lotfolio {
     /** The calendar from the 1st of January 2000 on; right as far as the year 2099. */
     private static final class Days {
         private static final int FOUR_YEARS = 1461;
+        /** In four years from a leap year on: its 29th of February, and the 1st of March ahead of the next. */
+        private static final int LEAP_DAY = 59;
+        private static final int LEAP_DAY_A_YEAR_OFF = 1155;
         private static final int LEAP_YEAR = 366;
         private static final int YEAR = 365;
         private static final int MONTHS = 12;
@@ -133,8 +136,11 @@ public final class Lotfolio {
             return ofDate(year, month, Math.min(dayOfMonth(day), monthLength(year, month)));
         }
 
+        /** Whether a DAY is behind the same day a year behind another one (of the 29th the 28th). */
         static boolean isYearPast(int from, int day) {
-            return day > monthsLater(from, MONTHS);
+            int left = from % FOUR_YEARS;
+            boolean passesLeapDay = left < LEAP_DAY || left >= LEAP_DAY_A_YEAR_OFF;
+            return day > from + (passesLeapDay ? LEAP_YEAR : YEAR);
         }
 
         /** DAY 0 is a Saturday. */
@@ -592,10 +598,11 @@ public final class Lotfolio {
         /** Tries each LOT of the set as the one that keeps the units that are over. */
         private void tryLast(LotRow row, int set, int over) {
             for (int i = 0; i < row.count; i++) {
-                if ((set >> i & 1) == 1 && row.units[i] > over) {
-                    long kept = costs[i] - share(costs[i], row.units[i] - over, row.units[i]);
-                    if (setCosts[set] - kept > bestCost) {
-                        bestCost = setCosts[set] - kept;
+                long some = row.units[i];
+                if ((set >> i & 1) == 1 && some > over && some > 0) {
+                    long gave = setCosts[set] - costs[i] + costs[i] * (some - over) / some;
+                    if (gave > bestCost) {
+                        bestCost = gave;
                         bestSet = set;
                         bestLast = i;
                     }
@@ -646,6 +653,8 @@ public final class Lotfolio {
         long bought;
         long givenUp;
         private int nextLot;
+        /** Of each ORDER the YEAR, numbered from 0. */
+        private final int[] years = new int[MOST_ORDERS];
         private final int[] firstPiece = new int[MOST_ORDERS + 1];
         private final int[] unitsBehind = new int[MOST_ORDERS * STOCKS];
         private final long[] cashBehind = new long[MOST_ORDERS];
@@ -683,36 +692,44 @@ public final class Lotfolio {
         /** Does one ORDER behind those ahead of it; one that can not be done changes nothing. */
         boolean perform(int order) {
             firstPiece[order] = sold.count;
-            if (!act(order)) {
-                return false;
+            years[order] = log.yearOf(order) - FIRST_YEAR;
+            boolean isDone = false;
+            switch (log.kinds[order]) {
+                case BUY:
+                    isDone = doBuy(order);
+                    break;
+                case SELL:
+                    isDone = doSell(order);
+                    break;
+                case SPLIT:
+                    isDone = doSplit(order);
+                    break;
+                case PAY:
+                    isDone = doPay(order);
+                    break;
+                case AGAIN:
+                    isDone = doAgain(order);
+                    break;
+                case SPIN:
+                    isDone = doSpin(order);
+                    break;
+                case MERGER:
+                    isDone = doMerger(order);
+                    break;
+                default:
+                    break;
             }
+            if (isDone) {
+                record(order);
+            }
+            return isDone;
+        }
+
+        private void record(int order) {
             firstPiece[order + 1] = sold.count;
             cashBehind[order] = cash;
             for (int i = 0; i < STOCKS; i++) {
                 unitsBehind[order * STOCKS + i] = rows[i].allUnits();
-            }
-            return true;
-        }
-
-        private boolean act(int order) {
-            switch (log.kinds[order]) {
-                case BUY:
-                    return doBuy(order);
-                case SELL:
-                    return doSell(order);
-                case SPLIT:
-                    return doSplit(order);
-                case PAY:
-                    takeIncome(order, moneyOf(order));
-                    return true;
-                case AGAIN:
-                    return doAgain(order);
-                case SPIN:
-                    return doSpin(order);
-                case MERGER:
-                    return doMerger(order);
-                default:
-                    return false;
             }
         }
 
@@ -734,8 +751,13 @@ public final class Lotfolio {
         }
 
         private void takeIncome(int order, long money) {
-            incomes[log.yearOf(order) - FIRST_YEAR] += money;
+            incomes[years[order]] += money;
             cash += money;
+        }
+
+        private boolean doPay(int order) {
+            takeIncome(order, moneyOf(order));
+            return true;
         }
 
         private boolean doAgain(int order) {
@@ -790,7 +812,7 @@ public final class Lotfolio {
         }
 
         private void addProfit(int order, boolean isLong, long more) {
-            profits[placeOfYear(log.yearOf(order), isLong)] += more;
+            profits[2 * years[order] + (isLong ? 1 : 0)] += more;
         }
 
         private boolean doSell(int order) {
@@ -1486,6 +1508,9 @@ public final class Lotfolio {
         int before = log.numberOf(order, which);
         draft.log.copy(log);
         draft.log.numbers[order * WIDTH + which] = value;
+        if (!draft.redo()) {
+            throw new IllegalStateException("an order could not be done");
+        }
         takeDraft();
         return before;
     }
@@ -1494,14 +1519,14 @@ public final class Lotfolio {
         needOrder(order);
         draft.log.copy(books.log);
         draft.log.drop(order);
+        if (!draft.redo()) {
+            throw new IllegalStateException("an order could not be done");
+        }
         takeDraft();
         return books.log.count;
     }
 
     private void takeDraft() {
-        if (!draft.redo()) {
-            throw new IllegalStateException("an order could not be done");
-        }
         for (int i = 0; i < changes.length; i++) {
             changes[i] = draft.profits[i] - books.profits[i];
         }
