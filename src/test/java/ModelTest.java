@@ -294,7 +294,7 @@ final class ModelTest {
     }
 
     public static void main(String[] args) {
-        int runs = args.length > 0 ? Integer.parseInt(args[0]) : 250;
+        int runs = args.length > 0 ? Integer.parseInt(args[0]) : 150;
         int from = args.length > 1 ? Integer.parseInt(args[1]) : 1;
         for (int i = 0; i < runs; i++) {
             if (!new ModelTest(from + i).run(i % 10 == 0 ? 480 : 120)) {

@@ -120,7 +120,7 @@ final class PromiseTest {
             () -> x.day(MIN, MIN, MIN), () -> x.day(MAX, MAX, MAX), () -> x.day(-1, 2, 29));
         arg(() -> x.day(1999, 12, 31), () -> x.day(2027, 5, 19), () -> x.day(2028, 2, 29),
             () -> x.day(1600, 2, 29), () -> x.day(999999999, 12, 31), () -> x.day(-999999999, 1, 1),
-            () -> x.day(-4, 2, 29), () -> x.day(0, 2, 29));
+            () -> x.day(-4, 2, 29), () -> x.day(0, 2, 29), () -> x.day(11760980, 1, 1));
     }
 
     private static void promise3() {
@@ -296,6 +296,15 @@ final class PromiseTest {
         x.sell(0, 200, 15, 10, 2, 0);
         is(0, () -> x.piece(3, 0, 0));
         is(1, () -> x.piece(3, 1, 0));
+        at = "7 sell of lots without a cost";
+        Lotfolio n = new Lotfolio();
+        for (int i = 0; i < 3; i++) {
+            n.buy(0, i, 10, 0, 0);
+        }
+        is(0, () -> n.given(0, 25, 6, 0));
+        n.sell(0, 100, 15, 0, 6, 0);
+        piece(n, 3, 0, 1, 10, 0, 0, 0, 0, 0);
+        piece(n, 3, 1, 0, 5, 0, 0, 0, 0, 0);
         at = "7 sell of lots that are dear by a hair";
         Lotfolio y = new Lotfolio();
         y.buy(0, 0, 9999, 99998, 0);
@@ -743,6 +752,17 @@ final class PromiseTest {
         is(10, () -> x.correct(0, 0, 5));
         is(0, () -> x.lots(0));
 
+        at = "14 correct: again and again";
+        Lotfolio z = lots(10);
+        for (int i = 0; i < 9; i++) {
+            z.sell(0, 200, 11, 10, 6, 0);
+        }
+        int first = z.digest();
+        for (int i = 0; i < 100; i++) {
+            z.correct(18, 1, 11);
+            z.correct(18, 1, 10);
+            is(first, z::digest);
+        }
         at = "14 correct: kinds, and the other stock";
         Lotfolio y = lots(1);
         y.spin(0, 200, 1, 1, 1, 500);
@@ -1092,10 +1112,38 @@ final class PromiseTest {
         is(0, () -> even.sign(366, 0));
         is(1, () -> even.sign(366, -1));
         is(-1, () -> even.sign(366, 1));
+        twelve();
         even.price(0, 300, 110);
         is(0, () -> even.sign(366, 10));
         even.buy(1, 366, 1, 1, 0);
         none(() -> even.sign(366, 10));
+    }
+
+    /** Twelve FLOWS, of which the last one is 1.5 to the power of 11 times the first one. */
+    private static void twelve() {
+        Lotfolio x = new Lotfolio();
+        x.price(0, 0, 59049);
+        x.buy(0, 0, 30, 682, 20);
+        x.buy(1, 0, 1, 0, 0);
+        int day = x.day(2011, 1, 1);
+        x.price(1, 0, 0);
+        is(12, () -> x.flows(day));
+        is(-20480, () -> x.flow(day, 0));
+        is(1771470, () -> x.flow(day, 11));
+        is(1, () -> x.turnings(day));
+        is(1, () -> x.sign(day, 49));
+        is(0, () -> x.sign(day, 50));
+        is(0, () -> x.rest(day, 50));
+        is(-1, () -> x.sign(day, 51));
+        is(50, () -> x.inner(day, 0));
+        is(-100, () -> x.inner(day, 1));
+        x.price(1, 1, 1);
+        is(1, () -> x.sign(day, 50));
+        is(50, () -> x.inner(day, 0));
+        x.price(1, 1, 0);
+        x.correct(0, 2, 21);
+        is(-1, () -> x.sign(day, 50));
+        is(49, () -> x.inner(day, 0));
     }
 
     /** Twelve FLOWS as great as the document lets them be made in a few ORDERS. */
@@ -1232,6 +1280,21 @@ final class PromiseTest {
         x.price(0, 0, 601);
         x.band(5, 0, 1000);
         is(-1, () -> x.fewest(0));
+        at = "37 fewest: by one cent";
+        Lotfolio cent = worths(600, 400);
+        cent.band(0, 600, 600);
+        is(0, () -> cent.fewest(0));
+        cent.band(0, 601, 1000);
+        is(1, () -> cent.fewest(0));
+        cent.band(0, 0, 599);
+        is(1, () -> cent.fewest(0));
+        Lotfolio odd = worths(667, 334);
+        odd.band(0, 667, 1000);
+        is(1, () -> odd.fewest(0));
+        odd.band(0, 0, 666);
+        is(1, () -> odd.fewest(0));
+        odd.band(0, 666, 667);
+        is(0, () -> odd.fewest(0));
         at = "37 fewest: pairs";
         Lotfolio z = worths(100, 100, 100, 100, 300, 300);
         int[] per = {200, 0, 0, 200, 400, 200};
@@ -1252,6 +1315,16 @@ final class PromiseTest {
             z.band(s, per[s], per[s]);
         }
         trades(z, 1, 0, 100, 2, 3, 100, 5, 4, 100);
+        at = "38 trade: several give";
+        Lotfolio g = worths(100, 200, 300, 400);
+        g.band(0, 0, 0);
+        g.band(1, 0, 0);
+        g.band(2, 0, 0);
+        g.band(3, 1000, 1000);
+        trades(g, 0, 3, 100, 1, 3, 200, 2, 3, 300);
+        g.band(2, 450, 450);
+        g.band(3, 550, 550);
+        trades(g, 0, 2, 100, 1, 2, 50, 1, 3, 150);
         at = "38 trade: what is left over goes by numbers, up to the most";
         Lotfolio x = worths(0, 0, 500, 500);
         x.band(0, 100, 200);
