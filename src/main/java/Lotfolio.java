@@ -1292,7 +1292,6 @@ public final class Lotfolio {
     private Books books;
     /** Where a LOG that is put right is done anew, ahead of its taking the place of the other one. */
     private Books draft;
-    private final Pick pick = new Pick();
     private final long[] changes = new long[2 * YEARS];
     private final FlowRow flowRow = new FlowRow();
     private final Bands bands = new Bands();
@@ -1304,8 +1303,9 @@ public final class Lotfolio {
         for (int i = 0; i < STOCKS; i++) {
             priceRows[i] = new PriceRow();
         }
-        books = new Books(pick);
-        draft = new Books(pick);
+        Pick shared = new Pick();
+        books = new Books(shared);
+        draft = new Books(shared);
     }
 
     // ---- what all of it uses
@@ -1583,10 +1583,10 @@ public final class Lotfolio {
             || !Log.fits(SELL, stock, 3, lot)) {
             throw new IllegalArgumentException("a number is out of range");
         }
-        if (!pick.choose(books.rows[stock], units, custom, lot)) {
+        if (!books.pick.choose(books.rows[stock], units, custom, lot)) {
             throw new IllegalStateException("these units can not be sold");
         }
-        return pick.all();
+        return books.pick.all();
     }
 
     public long mean(int stock) throws IllegalArgumentException, ArithmeticException {
