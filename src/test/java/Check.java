@@ -28,6 +28,20 @@ final class Check {
         }
     }
 
+    /** For long texts, of which only what is about the first difference is told. */
+    static void alike(String name, String got, String want) {
+        int at = 0;
+        while (at < Math.min(got.length(), want.length()) && got.charAt(at) == want.charAt(at)) {
+            at++;
+        }
+        boolean same = got.equals(want);
+        same(name, same ? "" : about(got, at), same ? "" : about(want, at));
+    }
+
+    private static String about(String text, int at) {
+        return at + " " + text.substring(Math.max(0, at - 40), Math.min(text.length(), at + 40));
+    }
+
     static void due(String name, Call call, long want) {
         same(name, outcome(call), Long.toString(want));
     }
