@@ -388,6 +388,13 @@ final class LotEdgeTest extends Edges {
         x.correct(0, 1, 0);
         x.correct(0, 2, 2);
         is(0, () -> x.mean(0));
+        at = "24 mean: of ten LOTS";
+        is(10, () -> ten().mean(0));
+        Lotfolio many = ten();
+        many.correct(9, 2, 99);
+        is(10, () -> many.mean(0));
+        many.correct(9, 2, 100);
+        is(11, () -> many.mean(0));
         at = "24 mean: asking changes nothing";
         asked(LotEdgeTest::ten, y -> y.mean(0));
     }

@@ -338,6 +338,27 @@ final class OrderEdgeTest extends Edges {
         is(100, () -> y.order(0, 1));
         is(102, () -> y.order(1, 1));
         index(() -> y.order(2, 1));
+        at = "15 strike: those behind keep their KINDS, DAYS, STOCKS and NUMBERS";
+        for (int struck = 0; struck < 4; struck++) {
+            Lotfolio mixed = new Lotfolio();
+            int[][] due = new int[4][];
+            for (int i = 0; i < 4; i++) {
+                int[] numbers = {7 + i, 20 + i, i};
+                mixed.buy(5 - i, 30 * i, numbers[0], numbers[1], numbers[2]);
+                due[i] = new int[] {BUY, 30 * i, 5 - i, numbers[0], numbers[1], numbers[2], 0, 0};
+            }
+            int gone = struck;
+            is(3, () -> mixed.strike(gone));
+            for (int i = 0; i < 24; i++) {
+                int value = i;
+                int was = i / 8 < gone ? i / 8 : i / 8 + 1;
+                is(due[was][value % 8], () -> mixed.order(value / 8, value % 8));
+            }
+            for (int stock = 2; stock < 6; stock++) {
+                int s = stock;
+                is(5 - s == gone ? 0 : 12 - s, () -> mixed.unitsAt(s, 9999));
+            }
+        }
         at = "15 strike: an ORDER may have a lesser DAY behind the last one is struck";
         Lotfolio z = lots(2);
         state(() -> z.buy(0, 100, 1, 1, 0));

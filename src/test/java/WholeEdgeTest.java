@@ -102,6 +102,61 @@ final class WholeEdgeTest extends Edges {
         asked(WholeEdgeTest::varied, Lotfolio::digest);
     }
 
+    /** 60 ORDERS, 250 PIECES: ten LOTS are spun off, and sold, 25 times. */
+    private static Lotfolio manyPieces() {
+        Lotfolio x = lots(10);
+        for (int i = 0; i < 25; i++) {
+            x.spin(0, 110 + 31 * i, 1, 1, 1, 10);
+            x.sell(1, 110 + 31 * i, 100, i % 2, 1, 0);
+        }
+        return x;
+    }
+
+    private static void manyOfAll() {
+        at = "21 pieces, 22 piece: of 60 ORDERS, with 250 PIECES";
+        Lotfolio x = manyPieces();
+        is(60, x::orders);
+        for (int i = 0; i < 25; i++) {
+            int sell = 11 + 2 * i;
+            is(0, () -> x.pieces(sell - 1));
+            is(10, () -> x.pieces(sell));
+            for (int place = 0; place < 10; place++) {
+                int p = place;
+                is(10 * (sell - 9) / 2 + 9 - p, () -> x.piece(sell, p, 0));
+                is(10, () -> x.piece(sell, p, 1));
+            }
+        }
+        piece(x, 59, 9, 250, 10, 0, 0, 1, 0, 0);
+        piece(x, 11, 0, 19, 10, 1, -1, 0, 0, 0);
+        piece(x, 13, 0, 29, 10, 0, 10, 0, 0, 0);
+        index(() -> x.piece(59, 10, 0), () -> x.piece(60, 0, 0), () -> x.pieces(60));
+        at = "39 digest, 40 isSound: of 60 ORDERS, with 250 PIECES";
+        digests(WholeEdgeTest::manyPieces);
+        is(1, () -> sound(manyPieces(), 0));
+        at = "7 sell, 14 correct: TOLD by the number of a LOT that came late";
+        Lotfolio late = manyPieces();
+        state(() -> late.correct(59, 2, 4));
+        is(0, () -> late.correct(59, 3, 255));
+        is(259, () -> late.piece(59, 0, 0));
+        is(1, () -> late.correct(59, 2, 4));
+        is(255, () -> late.piece(59, 0, 0));
+        state(() -> late.correct(59, 3, 249), () -> late.correct(59, 3, 260));
+        Lotfolio told = manyPieces();
+        is(59, () -> told.strike(59));
+        is(59, () -> told.sell(1, 9999, 31, 5, 4, 255));
+        int[] numbers = {255, 250, 251, 252};
+        for (int place = 0; place < 4; place++) {
+            int p = place;
+            is(numbers[p], () -> told.piece(59, p, 0));
+            is(p == 3 ? 1 : 10, () -> told.piece(59, p, 1));
+        }
+        refused(STATE, () -> {
+            Lotfolio y = manyPieces();
+            y.strike(59);
+            return y;
+        }, y -> y.sell(1, 9999, 1, 5, 4, 249), y -> y.sell(1, 9999, 1, 5, 4, 260), y -> y.given(1, 1, 4, 249));
+    }
+
     private static long sound(Lotfolio x, int part) {
         return x.isSound(part) ? 1 : 0;
     }
@@ -179,6 +234,7 @@ final class WholeEdgeTest extends Edges {
 
     public static void main(String[] args) {
         digestOfAll();
+        manyOfAll();
         soundAlways();
         whatAlwaysHolds();
         none();

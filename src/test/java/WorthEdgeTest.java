@@ -45,6 +45,13 @@ final class WorthEdgeTest extends Edges {
         is(1, () -> y.unitsAt(0, 0));
         is(1, () -> y.unitsAt(0, 9998));
         is(2, () -> y.unitsAt(0, 9999));
+        at = "28 unitsAt: of a STOCK without LOTS, and of one with 10";
+        for (int i = 0; i < 12; i++) {
+            int count = Math.min(i, 10);
+            int day = 99 + i;
+            is(10 * count, () -> lots(10).unitsAt(0, day));
+            is(0, () -> lots(10).unitsAt(1, day));
+        }
         at = "28 unitsAt: by 60 ORDERS";
         is(99999, () -> rich(3, 100, 60).unitsAt(3, 100));
         at = "28 unitsAt: an argument is out of range";
@@ -72,6 +79,15 @@ final class WorthEdgeTest extends Edges {
         Lotfolio sold = unpriced();
         sold.sell(1, 500, 5, 1, 0, 0);
         is(1000, () -> sold.worth(500));
+        at = "29 worth: of ten LOTS, and of 60 ORDERS";
+        Lotfolio ten = lots(10);
+        ten.price(0, 0, 3);
+        is(300, () -> ten.worth(9999));
+        is(30, () -> ten.worth(100));
+        Lotfolio full = rich(3, 100, 60);
+        full.price(3, 0, 2);
+        is(2 * 99999, () -> full.worth(100));
+        is(0, () -> full.worth(99));
         at = "29 worth: a PRICE of 0";
         Lotfolio none = lots(1);
         none.price(0, 100, 0);
