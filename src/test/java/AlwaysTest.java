@@ -1,9 +1,18 @@
+import java.util.ArrayList;
+import java.util.List;
 import java.util.Random;
 
 /** "WHAT ALWAYS HOLDS", (1) to (6), on random runs with fixed seeds. */
 final class AlwaysTest {
+    /** A call that changes an object; one that is refused changes nothing. */
+    private interface Change {
+        void on(Lotfolio x);
+    }
+
     private final Random r;
-    private final Lotfolio x = new Lotfolio();
+    /** All that was told: an object is good for 512 calls, so each question is asked of a new one. */
+    private final List<Change> told = new ArrayList<>();
+    private Lotfolio x = new Lotfolio();
     private int day;
 
     private AlwaysTest(long seed) {
@@ -14,25 +23,51 @@ final class AlwaysTest {
         return r.nextInt(most + 1);
     }
 
+    private void change(Change call) {
+        told.add(call);
+        Check.outcome(() -> {
+            call.on(x);
+            return 0;
+        });
+    }
+
+    private void anew() {
+        x = new Lotfolio();
+        for (Change call : told) {
+            Check.outcome(() -> {
+                call.on(x);
+                return 0;
+            });
+        }
+    }
+
     private void order() {
         int s = to(2);
+        int other = (s + 1) % 3;
         day = Math.min(4000, day + to(r.nextInt(4) == 0 ? 300 : 20));
+        int d = day;
+        int many = to(50);
+        int cents = to(300);
+        int a = 1 + to(9);
+        int b = 1 + to(9);
+        int custom = to(6);
+        int part = to(1000);
+        boolean either = r.nextBoolean();
         switch (to(9)) {
             case 0: case 1: case 2: case 3:
-                Check.outcome(() -> x.buy(s, day, 1 + to(40), to(300), to(9)));
+                change(y -> y.buy(s, d, 1 + many, cents, a));
                 break;
             case 4: case 5: case 6:
-                Check.outcome(() -> x.sell(s, day, 1 + to(50), to(300), to(6), to(20)));
+                change(y -> y.sell(s, d, 1 + many, cents, custom, a + b));
                 break;
             case 7:
-                Check.outcome(() -> x.split(s, day, 1 + to(9), 1 + to(9), to(99)));
+                change(y -> y.split(s, d, a, b, cents));
                 break;
             case 8:
-                Check.outcome(() -> r.nextBoolean() ? x.pay(s, day, to(50)) : x.again(s, day, to(50), 1 + to(99)));
+                change(either ? y -> y.pay(s, d, many) : y -> y.again(s, d, many, 1 + cents));
                 break;
             default:
-                Check.outcome(() -> r.nextBoolean() ? x.spin(s, day, (s + 1) % 3, 1 + to(9), 1 + to(9), to(1000))
-                    : x.merge(s, day, (s + 1) % 3, 1 + to(9), 1 + to(9), to(99)));
+                change(either ? y -> y.spin(s, d, other, a, b, part) : y -> y.merge(s, d, other, a, b, cents));
                 break;
         }
     }
@@ -88,8 +123,6 @@ final class AlwaysTest {
             x.split(s, day, a, 1, 3);
             x.split(s, day, 1, a, 3);
             Check.same("(3)", lots(s), before);
-            x.strike(x.orders() - 1);
-            x.strike(x.orders() - 1);
         }
     }
 
@@ -149,11 +182,14 @@ final class AlwaysTest {
 
     private void run() {
         for (int s = 0; s < 6; s++) {
-            x.price(s, 0, 1 + to(200));
+            int stock = s;
+            int cents = 1 + to(200);
+            change(y -> y.price(stock, 0, cents));
         }
-        for (int i = 0; i < 55; i++) {
+        for (int i = 0; i < 60; i++) {
             order();
             sums();
+            anew();
             switch (to(4)) {
                 case 0:
                     least();
@@ -171,6 +207,7 @@ final class AlwaysTest {
                     putBack();
                     break;
             }
+            anew();
         }
     }
 

@@ -12,6 +12,8 @@ final class ModelTest {
     private final Lotfolio x = new Lotfolio();
     private final Model m = new Model();
     private int day;
+    /** What an object answers behind its 512th call is free, so no more are made. */
+    private int calls;
     private final List<String> trail = new ArrayList<>();
 
     private ModelTest(long seed) {
@@ -23,6 +25,10 @@ final class ModelTest {
     }
 
     private boolean same(String name, Check.Call one, Check.Call other) {
+        if (calls == 512) {
+            return true;
+        }
+        calls++;
         String got = Check.outcome(one);
         String want = Check.outcome(other);
         trail.add(name + " = " + got);
@@ -81,7 +87,7 @@ final class ModelTest {
     private boolean tell() {
         int s = aStock();
         int d = next();
-        int before = x.orders();
+        int before = m.log.size();
         boolean fine;
         switch (r.nextInt(14)) {
             case 0: case 1: case 2: case 3: {
@@ -147,28 +153,28 @@ final class ModelTest {
                 break;
             }
         }
-        if (x.orders() > before) {
-            day = x.order(x.orders() - 1, 1);
+        if (m.log.size() > before) {
+            day = m.log.get(m.log.size() - 1).day();
         }
         return fine;
     }
 
     private boolean putRight() {
-        int o = num(0, Math.max(0, x.orders() - 1));
+        int o = num(0, Math.max(0, m.log.size() - 1));
         if (r.nextInt(4) == 0) {
             boolean fine = same("strike " + o, () -> x.strike(o), () -> m.strike(o));
-            day = x.orders() == 0 ? day : x.order(x.orders() - 1, 1);
+            day = m.log.isEmpty() ? day : m.log.get(m.log.size() - 1).day();
             return fine;
         }
         int w = num(0, 3);
         int v = small(0, 99999, 12);
-        int digest = x.digest();
-        String before = Check.outcome(() -> x.order(o, 3 + w));
+        int digest = m.digest();
+        String before = Check.outcome(() -> m.order(o, 3 + w));
         boolean fine = same("correct " + o + " " + w + " " + v, () -> x.correct(o, w, v), () -> m.correct(o, w, v));
-        if (r.nextInt(4) == 0 && !before.startsWith("t") && Check.outcome(() -> x.order(o, 3 + w)).equals("" + v)) {
+        if (r.nextInt(4) == 0 && !before.startsWith("t") && Check.outcome(() -> m.order(o, 3 + w)).equals("" + v)) {
             int old = Integer.parseInt(before);
             fine &= same("put back", () -> x.correct(o, w, old), () -> m.correct(o, w, old));
-            Check.holds("nothing changed", w >= Model.HAS[x.order(o, 0)] || x.digest() == digest);
+            fine &= w >= Model.HAS[m.order(o, 0)] || same("nothing changed", x::digest, () -> digest);
         }
         return fine;
     }
@@ -176,7 +182,7 @@ final class ModelTest {
     private boolean ask() {
         int s = aStock();
         int d = aDay();
-        int o = num(0, Math.max(0, x.orders() - 1));
+        int o = num(0, Math.max(0, m.log.size() - 1));
         int p = num(0, 4);
         int w = num(0, 6);
         boolean b = r.nextBoolean();
@@ -280,16 +286,23 @@ final class ModelTest {
     private boolean run(int steps) {
         if (r.nextBoolean()) {
             for (int s = 0; s < stocks; s++) {
+                calls++;
                 x.price(s, 0, 100);
                 m.price(s, 0, 100);
             }
         }
         for (int i = 0; i < steps; i++) {
-            if (!step() || !same("digest", x::digest, m::digest)) {
+            boolean isAsked = steps < 300 || i % 8 == 0;
+            if (!step() || isAsked && !same("digest", x::digest, m::digest)) {
                 return false;
             }
         }
-        Check.holds("sound", x.isSound(0) && x.isSound(1) && x.isSound(2) && x.isSound(3));
+        for (int i = 0; i < 4; i++) {
+            int part = i;
+            if (!same("sound", () -> x.isSound(part) ? 1 : 0, () -> 1)) {
+                return false;
+            }
+        }
         return true;
     }
 
@@ -297,7 +310,7 @@ final class ModelTest {
         int runs = args.length > 0 ? Integer.parseInt(args[0]) : 150;
         int from = args.length > 1 ? Integer.parseInt(args[1]) : 1;
         for (int i = 0; i < runs; i++) {
-            if (!new ModelTest(from + i).run(i % 10 == 0 ? 480 : 120)) {
+            if (!new ModelTest(from + i).run(i % 10 == 0 ? 380 : 150)) {
                 System.out.println("seed " + (from + i));
                 break;
             }

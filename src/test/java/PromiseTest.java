@@ -53,8 +53,9 @@ final class PromiseTest extends Due {
         is(20270518, () -> x.date(9999));
         for (int day = 0; day <= 9999; day++) {
             int d = day;
-            int date = x.date(day);
-            is(d, () -> x.day(date / 10000, date / 100 % 100, date % 100));
+            Lotfolio y = new Lotfolio();
+            int date = y.date(day);
+            is(d, () -> y.day(date / 10000, date / 100 % 100, date % 100));
         }
         arg(() -> x.date(-1), () -> x.date(10000), () -> x.date(MIN), () -> x.date(MAX));
     }

@@ -8,7 +8,7 @@ final class Snapshot {
         this.x = x;
     }
 
-    /** Some 250 calls; the last ones are orders, so the object is good for nothing else behind it. */
+    /** Some 250 calls; the last ones tell ORDERS and put them right, so the object is good for nothing else behind it. */
     static String of(Lotfolio x) {
         Snapshot all = new Snapshot(x);
         all.ofLog();
@@ -60,6 +60,10 @@ final class Snapshot {
         }
         put("buy", () -> x.buy(5, 9999, 1, 1, 0));
         put("last lot", () -> x.lot(5, x.lots(5) - 1, 0));
+        put("digest", x::digest);
+        put("correct", () -> x.correct(x.orders() - 1, 0, 2));
+        put("digest", x::digest);
+        put("strike", () -> x.strike(0));
         put("digest", x::digest);
     }
 }

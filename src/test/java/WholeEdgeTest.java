@@ -9,16 +9,20 @@ final class WholeEdgeTest extends Edges {
         h = (257 * h + Math.floorMod(value, (long) PRIME)) % PRIME;
     }
 
-    /** D of all, by what an object that is alike answers. */
-    private static long byAsking(Lotfolio x) {
+    /** D of all, by what objects that are alike answer: one for each ORDER, as 512 calls might not do. */
+    private static long byAsking(Supplier<Lotfolio> make) {
         h = 7;
-        for (int order = 0; order < x.orders(); order++) {
+        Lotfolio x = make.get();
+        int orders = x.orders();
+        for (int order = 0; order < orders; order++) {
+            Lotfolio y = make.get();
             for (int what = 0; what < 8; what++) {
-                mix(x.order(order, what));
+                mix(y.order(order, what));
             }
-            for (int place = 0; place < x.pieces(order); place++) {
+            int pieces = y.pieces(order);
+            for (int place = 0; place < pieces; place++) {
                 for (int what = 0; what < 7; what++) {
-                    mix(x.piece(order, place, what));
+                    mix(y.piece(order, place, what));
                 }
             }
         }
@@ -41,7 +45,7 @@ final class WholeEdgeTest extends Edges {
     }
 
     private static void digests(Supplier<Lotfolio> make) {
-        long due = byAsking(make.get());
+        long due = byAsking(make);
         is(due, () -> make.get().digest());
     }
 
@@ -114,9 +118,9 @@ final class WholeEdgeTest extends Edges {
 
     private static void manyOfAll() {
         at = "21 pieces, 22 piece: of 60 ORDERS, with 250 PIECES";
-        Lotfolio x = manyPieces();
-        is(60, x::orders);
+        is(60, () -> manyPieces().orders());
         for (int i = 0; i < 25; i++) {
+            Lotfolio x = manyPieces();
             int sell = 11 + 2 * i;
             is(0, () -> x.pieces(sell - 1));
             is(10, () -> x.pieces(sell));
@@ -126,6 +130,7 @@ final class WholeEdgeTest extends Edges {
                 is(10, () -> x.piece(sell, p, 1));
             }
         }
+        Lotfolio x = manyPieces();
         piece(x, 59, 9, 250, 10, 0, 0, 1, 0, 0);
         piece(x, 11, 0, 19, 10, 1, -1, 0, 0, 0);
         piece(x, 13, 0, 29, 10, 0, 10, 0, 0, 0);
