@@ -11,6 +11,8 @@ import java.util.Arrays;
 import java.util.List;
 import java.util.Set;
 import java.util.TreeSet;
+import java.util.regex.Matcher;
+import java.util.regex.Pattern;
 
 /** The public face is that of the document, and some rules of the language that can be looked at. */
 final class FaceTest {
@@ -99,6 +101,15 @@ final class FaceTest {
         }
     }
 
+    private static String found(String pattern, String source) {
+        Set<String> all = new TreeSet<>();
+        Matcher matcher = Pattern.compile(pattern).matcher(source);
+        while (matcher.find()) {
+            all.add(matcher.group(1));
+        }
+        return all.toString();
+    }
+
     private static void sourceIsPlain() throws Exception {
         String source = new String(Files.readAllBytes(SOURCE), StandardCharsets.ISO_8859_1);
         String[] barred = {"->", "::", "catch", "finally", "synchronized", "assert ", "BigInteger", "TreeMap",
@@ -106,6 +117,11 @@ final class FaceTest {
         for (String word : barred) {
             Check.holds("no " + word, !source.contains(word));
         }
+        Check.same("imports", found("import ([^;]+);", source),
+            "[java.time.DateTimeException, java.util.Arrays, java.util.NoSuchElementException]");
+        Check.same("all that is thrown", found("throw ([^(]+)\\(", source), "[new ArithmeticException, "
+            + "new DateTimeException, new IllegalArgumentException, new IllegalStateException, "
+            + "new IndexOutOfBoundsException, new NoSuchElementException]");
         Check.holds("plain signs", source.chars().allMatch(c -> c == '\n' || c >= 32 && c < 127));
         int length = 0;
         int longest = 0;
