@@ -334,19 +334,9 @@ final class AlwaysTest {
             toldRatesAreBetweenSigns(day);
             noFewerTradesDo(day);
         }
-        switch (run.to(8)) {
-            case 0:
-                allComesOfTheLogAlone();
-                break;
-            case 1:
-                rightAndBackChangesOnlyChanged();
-                break;
-            case 2:
-                strikeAndTellChangesOnlyChanged();
-                break;
-            default:
-                break;
-        }
+        allComesOfTheLogAlone();
+        rightAndBackChangesOnlyChanged();
+        strikeAndTellChangesOnlyChanged();
     }
 
     private static String state(Run run) {
@@ -363,7 +353,6 @@ final class AlwaysTest {
             }
             test.look();
         }
-        test.allComesOfTheLogAlone();
     }
 
     private static void seen() {
